@@ -164,6 +164,17 @@ public final class BinsTest {
         Check.same("no more then, too", yard.night(), -1);
 
         yard = new LiveryYard();
+        for (int i = 0; i < 10; i++) {
+            yard.horse(0, 0);
+        }
+        for (int i = 0; i < 199; i++) {
+            yard.night();
+        }
+        yard.horse(0, 0);
+        Check.same("1990 and 11 are too many", yard.night(), -1);
+        Check.same("1990 are kept", yard.about(6), 1990);
+
+        yard = new LiveryYard();
         for (int i = 0; i < 300; i++) {
             Check.same("a night of none", yard.night(), 0);
         }

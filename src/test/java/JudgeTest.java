@@ -6,6 +6,7 @@ public final class JudgeTest {
     public static void main(String[] args) {
         wrongMay();
         worth();
+        deepest();
         placeNames();
         manyPlaceRules();
         wrongMeet();
@@ -84,6 +85,22 @@ public final class JudgeTest {
         is("1+(1+(1+(1+(1+(1+(1+1))))))", 8);
         is("1 or 1 and 1<1+(1 or 1 and 1<1+(1 or 1 and 1<1+(1 or 1 and 1<1+(0 or 1 and 0<1+(1)))))", 1);
         is("0 or 1 and 1<0+(0 or 1 and 1<0+(0 or 1 and 1<0+(0 or 1 and 1<0+(0 or 1 and 0<1+(1)))))", 0);
+    }
+
+    /** Every level leaves the left sides of or, and, < and + open while the next one is worked out. */
+    private static void deepest() {
+        for (int last = 0; last <= 1; last++) {
+            String e = "0 or 1 and 1<1+" + last;
+            int worth = last;
+            for (int level = 1; level < 8; level++) {
+                e = "0 or 1 and 1<1+(" + e + ")";
+            }
+            LiveryYard yard = new LiveryYard();
+            yard.horse(0, 0);
+            yard.field(0, 1, 0);
+            Check.same("rules of the deepest", Check.rules(yard, "place " + e + ";"), 1);
+            Check.same("the deepest with " + last, yard.may(0, 0, 0), worth != 0);
+        }
     }
 
     private static void placeNames() {

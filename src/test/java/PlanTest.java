@@ -10,6 +10,7 @@ public final class PlanTest {
         none();
         givenUp();
         foundLate();
+        lastTry();
         planOfTheDay();
         stuck();
         Check.end();
@@ -126,6 +127,27 @@ public final class PlanTest {
         Check.same("below the most", yard.tries() < 20000, true);
         Check.same("the last is first", yard.out(4), 0);
         Check.same("the others behind", yard.out(0), 1);
+    }
+
+    /** The most tries: a plan that the last of them finds is found, one that would need one more is not. */
+    private static void lastTry() {
+        LiveryYard yard = yard(7, 1, 0, 0, 0, 1, 1);
+        Check.rules(yard, "place not(horse=0 and hour+field<2);place not(horse=5 and hour>0);"
+                + "place not(horse=5 and hour+field<3);place not(horse=1 and hour+field<4);");
+        Check.same("found by 19999", yard.plan(), 1);
+        Check.same("tries", yard.tries(), 19999);
+        yard = yard(7, 0, 1, 0, 1, 0, 1);
+        Check.rules(yard, "place not(horse=5 and hour+field<4);place not(horse=1 and field=3);"
+                + "place not(horse=5 and hour>0);");
+        Check.same("found by 20000", yard.plan(), 1);
+        Check.same("tries", yard.tries(), 20000);
+        Check.same("about(4)", yard.about(4), 1);
+        yard = yard(7, 0, 0, 1, 1, 1);
+        Check.rules(yard, "place not(horse=5 and hour>0);place not(horse=1 and field=3);"
+                + "place not(horse=5 and hour+field<4);");
+        Check.same("would be found by 20001", yard.plan(), -2);
+        Check.same("tries", yard.tries(), 20000);
+        Check.same("about(4)", yard.about(4), 0);
     }
 
     private static void planOfTheDay() {

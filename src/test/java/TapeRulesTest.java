@@ -117,6 +117,13 @@ public final class TapeRulesTest {
         Check.bad("place \u0000;", 1, 6);
         Check.bad("place \u00e9;", 1, 6);
         Check.bad("place abcdefgh;", 3, 6);
+        Check.bad("place zazaz;", 3, 6);
+        Check.bad("place a0z9;", 3, 6);
+        Check.bad("place 1z;", 1, 6);
+        Check.bad("place `;", 1, 6);
+        Check.bad("place {;", 1, 6);
+        Check.bad("place /;", 1, 6);
+        Check.bad("place :;", 1, 6);
         Check.bad("place abcdefghi;", 1, 6);
         Check.bad("place a2345678;", 3, 6);
         Check.bad("place a23456789;", 1, 6);
