@@ -123,11 +123,14 @@ public final class LiveryYard {
     }
 
     public int horse(int kind, int age) {
-        if (!isUpTo(kind, MAX_KIND) || !isUpTo(age, MAX_AGE) || herd.count() >= MAX_HORSES) {
+        if (!isUpTo(kind, MAX_KIND) || !isUpTo(age, MAX_AGE)) {
+            return NONE;
+        }
+        int horse = herd.add(kind, age, today);
+        if (horse == NONE) {
             return NONE;
         }
         planner.forget();
-        int horse = herd.add(kind, age, today);
         works.begin(horse, today);
         return horse;
     }
@@ -434,6 +437,7 @@ public final class LiveryYard {
             return horse >= 0 && horse < count;
         }
 
+        /** Answers the number of the horse that came, or NONE if there is no room for it. */
         int add(int kind, int age, int day) {
             if (count >= MAX_HORSES) {
                 return NONE;
